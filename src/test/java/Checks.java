@@ -1,0 +1,92 @@
+/** Counts answers that are not the ones that are due, and tells them. */
+final class Checks {
+    private int wrong = 0;
+    private int made = 0;
+
+    /** LUCK by the document's rule, to tell ahead what will be DRAWN. */
+    static final class Luck {
+        private int luck;
+
+        Luck(Kleroterion of) {
+            luck = of.city(3);
+        }
+
+        int draw(int many) {
+            luck = (13 * luck + 5) % 64;
+            return luck * many / 64;
+        }
+    }
+
+    void due(String call, Object got, Object want) {
+        made++;
+        if (!want.equals(got)) {
+            wrong++;
+            System.out.println(call + " answered " + got + ", due is " + want);
+        }
+    }
+
+    /** The call throws just that exception, and nothing that can be asked is another one by it. */
+    void refused(String call, Kleroterion of, Class<? extends RuntimeException> due, Runnable made) {
+        long before = of.digest();
+        Class<?> thrown = null;
+        try {
+            made.run();
+        } catch (RuntimeException e) {
+            thrown = e.getClass();
+        }
+        due(call + " throws", String.valueOf(thrown), String.valueOf(due));
+        due(call + " leaves the digest", of.digest(), before);
+    }
+
+    void noIndex(String call, Kleroterion of, Runnable made) {
+        refused(call, of, IndexOutOfBoundsException.class, made);
+    }
+
+    void noArgument(String call, Kleroterion of, Runnable made) {
+        refused(call, of, IllegalArgumentException.class, made);
+    }
+
+    void noState(String call, Kleroterion of, Runnable made) {
+        refused(call, of, IllegalStateException.class, made);
+    }
+
+    void end() {
+        System.out.println(wrong == 0 ? made + " checks are as due" : wrong + " of " + made + " checks are not as due");
+        if (wrong != 0) {
+            System.exit(1);
+        }
+    }
+
+    /** Three of DEME 0 (TRIBE 0): each JURY, board and COUNCIL of a city with few others is these three. */
+    static Kleroterion three() {
+        Kleroterion x = new Kleroterion();
+        for (int k = 0; k < 3; k++) {
+            x.enroll(0, 40, 100, 5);
+        }
+        return x;
+    }
+
+    /** UNREST of 21 by seven lost fights, of nobody, on the DAYS from now on; there has to be a CHAIR. */
+    static void loseSevenTimes(Kleroterion x, int lean) {
+        x.move(0, 5, 0, lean, 300);
+        x.assembly();
+        for (int k = 0; k < 7; k++) {
+            x.levy(8);
+            x.pass(1);
+        }
+    }
+
+    /** As three(), but the people do not rule any more; the DAY is 10. */
+    static Kleroterion overthrown() {
+        Kleroterion x = three();
+        overthrow(x, 5);
+        return x;
+    }
+
+    /** On DAY 0, without a COUNCIL. */
+    static void overthrow(Kleroterion x, int lean) {
+        x.seat();
+        loseSevenTimes(x, lean);
+        x.pass(3);
+    }
+}
