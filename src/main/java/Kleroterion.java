@@ -2052,7 +2052,6 @@ public final class Kleroterion {
             }
             if (other.view % 2 == 0) {
                 other.burden = claimer.burden;
-                other.isBurdenDone = false;
                 claimer.burden = Citizen.NO_BURDEN;
                 return PASSED_ON;
             }
@@ -2207,7 +2206,6 @@ public final class Kleroterion {
             city.dissolveCouncil();
             city.emptyOffices(false);
             assembly.agenda.clear();
-            rulers.clear();
             for (int k = 0; k < MOST_RULERS; k++) {
                 Citizen next = richestBehind();
                 if (next != null) {

@@ -29,12 +29,15 @@ final class Checks {
     void refused(String call, Kleroterion of, Class<? extends RuntimeException> due, Runnable made) {
         long before = of.digest();
         Class<?> thrown = null;
+        String thrower = "Kleroterion";
         try {
             made.run();
         } catch (RuntimeException e) {
             thrown = e.getClass();
+            thrower = e.getStackTrace()[0].getClassName();
         }
         due(call + " throws", String.valueOf(thrown), String.valueOf(due));
+        due(call + " throws by itself, no list does", thrower, "Kleroterion");
         due(call + " leaves the digest", of.digest(), before);
     }
 

@@ -141,6 +141,23 @@ public final class OfficesTest {
         C.noState("it was", x, () -> x.sue(1, 0, 3, 10, 5));
     }
 
+    /** An account is owed no more by one who WAITS. */
+    private static void accountOfOneWhoWaits(boolean isPurged) {
+        Kleroterion x = new Kleroterion();
+        x.enroll(0, 40, 50, 0);
+        x.enroll(0, 40, 50, 5);
+        x.enroll(0, 40, 50, 5);
+        for (int k = 0; k < 3; k++) x.enroll(0, 40, 50, 9 + k / 2);
+        x.enroll(1, 40, 50, 15);
+        x.stand(0, 3);
+        x.fill(3);
+        x.pass(10);
+        C.due("less than half", x.ofOffice(3, 0), -1);
+        if (isPurged) C.due("that one WAITS", x.purge(0), 1);
+        if (isPurged) C.noState("no account", x, () -> x.sue(1, 0, 3, 10, 5));
+        else C.due("an account", x.sue(1, 0, 3, 10, 5), 0);
+    }
+
     private static void yearEnds() {
         Kleroterion x = new Kleroterion();
         x.enroll(0, 40, 200, 5);
@@ -186,6 +203,8 @@ public final class OfficesTest {
         byVotes();
         looking();
         confidence();
+        accountOfOneWhoWaits(false);
+        accountOfOneWhoWaits(true);
         yearEnds();
         overthrown();
         C.end();

@@ -237,21 +237,57 @@ public final class RuleTest {
         C.due("no more", x.sue(0, 6, 1, 10, 5), 2);
     }
 
-    /** DECREES of the DAY of the OATH and ahead of it are not challenged. */
+    /** DECREES of the DAY of the OATH (10) and ahead of it are not challenged. */
     private static void oath() {
-        Kleroterion x = oligarchs(false);
-        x.seat();
-        x.move(6, 0, 1, 4, 0);
-        Checks.loseSevenTimes(x, 5);
-        x.pass(3);
-        x.rise(5, true);
-        C.noState("of a DAY ahead of it", x, () -> x.challenge(0, 0, 10));
-        x.seat();
-        for (int k = 0; k < 20 && x.council(2) == -1; k++) x.pass(1);
-        x.move(6, 0, 1, 4, 0);
-        x.assembly();
-        if (x.city(0) > 10) C.due("of a later DAY", x.challenge(0, 1, 10), x.jury(6) - 1);
-        else C.noState("of that DAY", x, () -> x.challenge(0, 1, 10));
+        int same = 0;
+        int later = 0;
+        for (int lost = 0; lost < 8; lost++) {
+            Kleroterion x = oligarchs(false);
+            x.seat();
+            x.move(6, 0, 1, 4, 0);
+            Checks.loseSevenTimes(x, 5);
+            x.pass(3);
+            // each is a DRAW more, so that another TRIBE has the PRYTANY
+            for (int k = 0; k < lost; k++) {
+                x.enroll(7, 20, 0, 15);
+                x.rise(15, true);
+            }
+            C.due("the people rule again", x.rise(5, true), true);
+            C.noState("of a DAY ahead of it", x, () -> x.challenge(0, 0, 10));
+            x.seat();
+            for (int k = 0; k < 39 && x.council(2) == -1; k++) x.pass(1);
+            if (x.council(2) == -1) continue;
+            x.move(6, 0, 1, 4, 0);
+            C.due("PASSES", x.assembly(), 1);
+            if (x.city(0) == 10) {
+                same++;
+                C.noState("of that DAY", x, () -> x.challenge(0, 1, 10));
+            } else {
+                later++;
+                C.due("of a later DAY", x.challenge(0, 1, 10), 0);
+            }
+        }
+        C.due("both were there", same > 0 && later > 0, true);
+    }
+
+    /** An UNREST of 24 by ALLIES that fall off, with no CITIZENS. */
+    private static void nobodyRules() {
+        Kleroterion x = new Kleroterion();
+        for (int year = 1; year <= 3; year++) {
+            for (int k = 0; k < 4; k++) x.ally(1, 99);
+            x.pass(40);
+            C.due("UNREST", x.city(7), 8 * year);
+            C.due("the people rule", x.city(8), 1);
+        }
+        x.pass(10);
+        C.due("they do not", x.city(8), 0);
+        C.due("nor does anybody", x.city(9), -1);
+        x.enroll(0, 20, 200, 5);
+        x.pass(10);
+        C.due("nobody pays", x.ofCitizen(0, 4), 200);
+        C.due("nobody RULES by now", x.city(9), -1);
+        C.due("one of one", x.rise(0, false), true);
+        C.due("nobody is EXILED", x.roll(3, 0, -1), 0);
     }
 
     /** An account with a DUE of DAY 50, on that DAY. */
@@ -304,6 +340,7 @@ public final class RuleTest {
         withoutOath();
         withOath();
         oath();
+        nobodyRules();
         account(true);
         account(false);
         pass();

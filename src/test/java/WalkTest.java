@@ -45,7 +45,9 @@ public final class WalkTest {
         try {
             return method.invoke(on, arguments);
         } catch (InvocationTargetException e) {
-            return "throws " + e.getCause().getClass().getName();
+            String thrower = e.getCause().getStackTrace()[0].getClassName();
+            boolean isOwn = thrower.equals("Kleroterion") || thrower.equals("PlainCity");
+            return (isOwn ? "throws " : "lets a list throw ") + e.getCause().getClass().getName();
         }
     }
 
