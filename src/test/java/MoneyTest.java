@@ -1,3 +1,6 @@
+import java.util.ArrayList;
+import java.util.List;
+
 /** Promises 25 to 31: lease, ally, money, claim, bear, festival, ofTribe. */
 public final class MoneyTest {
     private static final Checks C = new Checks();
@@ -165,33 +168,74 @@ public final class MoneyTest {
         return best;
     }
 
+    /** The festival of this YEAR, told ahead; the TRIBE that wins. */
+    private static int told(Kleroterion x, int full) {
+        Checks.Luck luck = new Checks.Luck(x);
+        int[] ranks = new int[4];
+        for (int tribe = 0; tribe < 4; tribe += 2) ranks[tribe] = x.ofTribe(tribe, 2) + luck.draw(20);
+        List<Integer> left = new ArrayList<>();
+        for (int k = 0; k < full; k++) left.add(k);
+        List<Integer> votes = new ArrayList<>();
+        for (int k = 0; k < Math.min(5, full); k++) votes.add(vote(x, left.remove(luck.draw(left.size())), ranks));
+        int opened = votes.size() == 5 ? 3 : votes.size();
+        int[] count = new int[4];
+        for (int k = 0; k < opened; k++) count[opened == 3 ? votes.remove(luck.draw(votes.size())) : votes.get(k)]++;
+        return count[2] > count[0] ? 2 : 0;
+    }
+
     private static void festival() {
         int[] wins = new int[4];
         for (int round = 0; round < 24; round++) {
-            int more = round % 3;
-            Kleroterion x = choruses(more, round);
-            Checks.Luck luck = new Checks.Luck(x);
-            int[] ranks = {40 + luck.draw(20), 0, 40 + luck.draw(20), 0};
-            java.util.List<Integer> left = new java.util.ArrayList<>();
-            for (int k = 0; k < 4 + more; k++) left.add(k);
-            java.util.List<Integer> votes = new java.util.ArrayList<>();
-            for (int k = 0; k < Math.min(5, 4 + more); k++) votes.add(vote(x, left.remove(luck.draw(left.size())), ranks));
-            int[] count = new int[4];
-            int opened = votes.size() == 5 ? 3 : votes.size();
-            for (int k = 0; k < opened; k++) count[opened == 3 ? votes.remove(luck.draw(votes.size())) : votes.get(k)]++;
-            int winner = count[2] > count[0] ? 2 : 0;
-            int draws = x.city(4) + 2 + Math.min(5, 4 + more) + (more > 0 ? 3 : 0);
-            int wealth = x.ofCitizen(winner, 4);
-            int other = x.ofCitizen(2 - winner, 4);
-            C.due("the TRIBE that wins", x.festival(), winner);
-            C.due("DRAWS", x.city(4), draws);
-            C.due("1 more", x.ofCitizen(winner, 4), wealth + 1);
-            C.due("not the others", x.ofCitizen(2 - winner, 4), other);
-            C.due("won", x.ofTribe(winner, 3), 1);
-            C.noState("once a YEAR", x, x::festival);
-            wins[winner]++;
+            int full = 4 + round % 3;
+            Kleroterion x = choruses(full - 4, round);
+            for (int year = 1; year <= 3; year += 2) {
+                int winner = told(x, full);
+                int draws = x.city(4) + 2 + Math.min(5, full) + (full > 4 ? 3 : 0);
+                int wealth = x.ofCitizen(winner, 4);
+                int other = x.ofCitizen(2 - winner, 4);
+                int won = x.ofTribe(winner, 3);
+                C.due("the TRIBE that wins", x.festival(), winner);
+                C.due("DRAWS", x.city(4), draws);
+                C.due("1 more", x.ofCitizen(winner, 4), wealth + 1);
+                C.due("not the others", x.ofCitizen(2 - winner, 4), other);
+                C.due("won", x.ofTribe(winner, 3), won + 1);
+                C.noState("once a YEAR", x, x::festival);
+                wins[winner]++;
+                x.pass(40);
+                x.pass(40);
+                for (int k = 0; k < 4; k++) if (x.ofCitizen(k, 12) == 2) x.bear(k);
+            }
         }
         C.due("either one wins", wins[0] > 0 && wins[2] > 0, true);
+    }
+
+    /** Two CHORUSES of the YEAR 3, in which all who are FULL are EXILED. */
+    private static void nobodyJudges() {
+        Kleroterion x = new Kleroterion();
+        x.enroll(0, 20, 300, 1);
+        x.enroll(0, 20, 280, 3);
+        x.enroll(2, 20, 300, 10);
+        x.enroll(2, 20, 280, 12);
+        for (int year = 1; year <= 3; year++) {
+            for (int k = 0; k < 4; k++) x.ally(1, 99);
+            x.pass(40);
+        }
+        x.bear(1);
+        x.bear(3);
+        C.due("two CHORUSES", x.ofTribe(0, 2) > 0 && x.ofTribe(2, 2) > 0, true);
+        x.pass(10);
+        C.due("the people do not rule", x.city(8), 0);
+        for (int k = 0; k < 4 && x.ofCitizen(3, 6) == 1; k++) x.rise(15, true);
+        C.due("the people rule", x.rise(2, false), true);
+        C.due("nobody is FULL", x.city(6), 0);
+        C.noState("nobody judges", x, x::festival);
+        x.enroll(2, 40, 0, 8);
+        Checks.Luck luck = new Checks.Luck(x);
+        int[] ranks = {x.ofTribe(0, 2) + luck.draw(20), 0, x.ofTribe(2, 2) + luck.draw(20), 0};
+        int winner = vote(x, 4, ranks);
+        int draws = x.city(4);
+        C.due("one judges", x.festival(), winner);
+        C.due("and is DRAWN", x.city(4), draws + 3);
     }
 
     /** PURSE and UNREST behind a festival. */
@@ -223,6 +267,7 @@ public final class MoneyTest {
         claim();
         chorus();
         festival();
+        nobodyJudges();
         joy();
         C.end();
     }

@@ -293,11 +293,11 @@ public final class RuleTest {
     /** An account with a DUE of DAY 50, on that DAY. */
     private static void account(boolean isOath) {
         Kleroterion x = oligarchs(false);
-        x.enroll(4, 40, 50, 5);
-        x.stand(10, 3);
+        for (int k = 0; k < 3; k++) x.enroll(4, 40, 50, 5);
+        x.stand(0, 3);
         x.fill(3);
         x.seat();
-        x.move(0, 5, 0, 5, 300);
+        x.move(1, 5, 0, 5, 300);
         x.assembly();
         x.pass(40);
         C.due("out of OFFICE", x.ofOffice(3, 0), -1);
@@ -307,8 +307,8 @@ public final class RuleTest {
         }
         x.pass(3);
         C.due("the people rule again", x.rise(5, isOath), true);
-        if (isOath) C.noState("owed no more", x, () -> x.sue(0, 10, 3, 10, 5));
-        else C.due("owed", x.sue(0, 10, 3, 10, 5), 0);
+        if (isOath) C.noState("owed no more", x, () -> x.sue(1, 0, 3, 10, 5));
+        else C.due("owed", x.sue(1, 0, 3, 10, 5), 0);
     }
 
     private static void pass() {
