@@ -69,6 +69,26 @@ final class Checks {
         return x;
     }
 
+    /** Seatings of nobody (three DRAWS each), till LUCK is that; without a COUNCIL and anybody for it. */
+    static void tillLuck(Kleroterion x, int luck) {
+        for (int k = 0; k < 64 && x.city(3) != luck; k++) x.seat();
+    }
+
+    /** Likewise, till the next one of many that is DRAWN is the wanted one. */
+    static void tillDrawn(Kleroterion x, int many, int wanted) {
+        for (int k = 0; k < 64 && new Luck(x).draw(many) != wanted; k++) x.seat();
+    }
+
+    /** Lets DAYS go by till there is a CHAIR, 80 at most. */
+    static void tillChair(Kleroterion x) {
+        for (int k = 0; k < 80 && x.council(2) == -1; k++) x.pass(1);
+    }
+
+    /** What is asked of one CITIZEN. */
+    void citizen(String when, Kleroterion x, int citizen, int what, int due) {
+        due(when + ": " + what + " of " + citizen, x.ofCitizen(citizen, what), due);
+    }
+
     /** UNREST of 21 by seven lost fights, of nobody, on the DAYS from now on; there has to be a CHAIR. */
     static void loseSevenTimes(Kleroterion x, int lean) {
         x.move(0, 5, 0, lean, 300);
