@@ -1,3 +1,6 @@
+import java.util.ArrayList;
+import java.util.List;
+
 /** Counts answers that are not the ones that are due, and tells them. */
 final class Checks {
     private int wrong = 0;
@@ -51,6 +54,24 @@ final class Checks {
 
     void noState(String call, Kleroterion of, Runnable made) {
         refused(call, of, IllegalStateException.class, made);
+    }
+
+    /** What digest() is computed of, in that order. */
+    static List<Long> numbers(Kleroterion x) {
+        List<Long> all = new ArrayList<>();
+        for (int k = 0; k <= 14; k++) all.add((long) x.city(k));
+        for (int k = 0; k <= 4; k++) all.add((long) x.council(k));
+        for (int k = 0; k <= 8; k++) all.add((long) x.money(k));
+        for (int k = 0; k <= 6; k++) all.add((long) x.jury(k));
+        for (int k = 0; k <= 7; k++) all.add((long) x.law(k));
+        for (int o = 0; o < 7; o++) for (int k = 0; k <= 3; k++) all.add((long) x.ofOffice(o, k));
+        for (int t = 0; t < 4; t++) for (int k = 0; k <= 4; k++) all.add((long) x.ofTribe(t, k));
+        for (int d = 0; d < x.city(12); d++) for (int k = 0; k <= 4; k++) all.add((long) x.ofDecree(d, k));
+        for (int s = 0; s < x.jury(6); s++) for (int k = 0; k <= 6; k++) all.add((long) x.ofSuit(s, k));
+        for (int m = 0; m < x.city(11); m++) all.add((long) x.would(m));
+        for (int c = 0; c < x.city(5); c++) for (int k = 0; k <= 12; k++) all.add((long) x.ofCitizen(c, k));
+        all.add(x.isSound() ? 1L : 0L);
+        return all;
     }
 
     void end() {

@@ -1,4 +1,3 @@
-import java.util.ArrayList;
 import java.util.List;
 
 /** Promises 1 and 35 to 41, sentence by sentence: what is asked, pass, bell, tell, digest; what is refused changes nothing. */
@@ -55,7 +54,7 @@ public final class EdgesAnswersTest {
     private static void asking() {
         for (Kleroterion x : List.of(new Kleroterion(), busy(), Checks.overthrown())) {
             long before = x.digest();
-            numbers(x);
+            Checks.numbers(x);
             for (int c = 0; c < x.city(5); c++) x.tell(c);
             for (int status = 0; status < 6; status++) x.roll(status, 0, -1);
             C.due("0: what is asked changes nothing", x.digest(), before);
@@ -67,23 +66,6 @@ public final class EdgesAnswersTest {
             C.noArgument("27: what " + what, busy(), () -> busy().money(what));
             C.noArgument("9: what " + what, busy(), () -> busy().council(what));
         }
-    }
-
-    private static List<Long> numbers(Kleroterion x) {
-        List<Long> all = new ArrayList<>();
-        for (int k = 0; k <= 14; k++) all.add((long) x.city(k));
-        for (int k = 0; k <= 4; k++) all.add((long) x.council(k));
-        for (int k = 0; k <= 8; k++) all.add((long) x.money(k));
-        for (int k = 0; k <= 6; k++) all.add((long) x.jury(k));
-        for (int k = 0; k <= 7; k++) all.add((long) x.law(k));
-        for (int o = 0; o < 7; o++) for (int k = 0; k <= 3; k++) all.add((long) x.ofOffice(o, k));
-        for (int t = 0; t < 4; t++) for (int k = 0; k <= 4; k++) all.add((long) x.ofTribe(t, k));
-        for (int d = 0; d < x.city(12); d++) for (int k = 0; k <= 4; k++) all.add((long) x.ofDecree(d, k));
-        for (int s = 0; s < x.jury(6); s++) for (int k = 0; k <= 6; k++) all.add((long) x.ofSuit(s, k));
-        for (int m = 0; m < x.city(11); m++) all.add((long) x.would(m));
-        for (int c = 0; c < x.city(5); c++) for (int k = 0; k <= 12; k++) all.add((long) x.ofCitizen(c, k));
-        all.add(x.isSound() ? 1L : 0L);
-        return all;
     }
 
     /** It wraps around as a 64-bit integer; with nobody, with 40, with 12 DECREES, 8 suits, 8 MOTIONS. */
@@ -104,7 +86,7 @@ public final class EdgesAnswersTest {
         C.due("1: 40 CITIZENS", full.city(5), 40);
         for (Kleroterion x : List.of(new Kleroterion(), busy(), full, Checks.overthrown())) {
             long d = 58261L;
-            for (long v : numbers(x)) d = d * 31 + v;
+            for (long v : Checks.numbers(x)) d = d * 31 + v;
             C.due("41: digest", x.digest(), d);
         }
         C.due("41: of a new object, told by hand", new Kleroterion().digest(), ofNew());
@@ -124,6 +106,47 @@ public final class EdgesAnswersTest {
         for (int o = 0; o < 7; o++) for (int v : new int[] {-1, 0, -1, 0}) d = d * 31 + v;
         for (int k = 0; k < 20; k++) d = d * 31;
         return d * 31 + 1;
+    }
+
+    /** If several exceptions apply, the one that is named first is thrown: nobody, ahead of what the state does not let. */
+    private static void order() {
+        Kleroterion x = Checks.overthrown();
+        x.enroll(0, 40, 0, 15);
+        C.noState("5: the people do not rule", x, () -> x.appeal(3));
+        C.noIndex("5: nobody, ahead of that", x, () -> x.appeal(4));
+        C.noIndex("10: nobody, ahead of that", x, () -> x.move(4, 0, 0, 5, 0));
+        C.noArgument("10: a wrong TOPIC, ahead of that", x, () -> x.move(3, 0, 8, 5, 0));
+        C.noIndex("11: no MOTION, ahead of a wrong LEAN", x, () -> x.amend(0, -1));
+        C.noIndex("16: no OFFICE, ahead of one who WAITS", x, () -> x.stand(3, 7));
+        C.noIndex("16: nobody, ahead of no OFFICE", x, () -> x.stand(4, 7));
+        C.noIndex("17: no OFFICE, ahead of the people", x, () -> x.fill(-1));
+        C.noIndex("19: nobody, ahead of one who WAITS", x, () -> x.sue(3, 4, 0, 1, 5));
+        C.noArgument("19: a wrong PROOF, ahead of one who WAITS", x, () -> x.sue(3, 0, 0, 1, 16));
+        C.noArgument("19: both the same, ahead of one who WAITS", x, () -> x.sue(3, 3, 0, 1, 5));
+        C.noIndex("20: no DECREE, ahead of one who WAITS", x, () -> x.challenge(3, 0, 201));
+        C.noIndex("25: no LEASE, ahead of one who WAITS", x, () -> x.lease(3, 3, 1));
+        C.noIndex("25: nobody, ahead of a wrong RENT", x, () -> x.lease(4, 0, 0));
+        C.noArgument("25: a wrong RENT, ahead of one who WAITS", x, () -> x.lease(3, 0, 101));
+        C.noIndex("28: nobody, ahead of no BURDEN", x, () -> x.claim(0, 4));
+        C.noArgument("28: both the same, ahead of no BURDEN", x, () -> x.claim(0, 0));
+        C.noIndex("29: nobody, ahead of no BURDEN", x, () -> x.bear(4));
+        C.noArgument("33: no TRIBES", x, () -> x.levy(0));
+        C.noArgument("34: a wrong LEAN", x, () -> x.rise(16, true));
+        Kleroterion full = new Kleroterion();
+        full.found(40, 0);
+        for (int k = 0; k < 4; k++) full.ally(1, 1);
+        for (int k = 0; k < 8; k++) full.sue(0, 1, 0, 1, 5);
+        for (int k = 0; k < 8; k++) full.move(0, 0, 0, 5, 0);
+        C.noArgument("2: a wrong AGE, ahead of 40", full, () -> full.enroll(0, 17, 0, 5));
+        C.noArgument("2: a wrong WEALTH, ahead of 40", full, () -> full.enroll(0, 18, 301, 5));
+        C.noArgument("3: too many, ahead of 40", full, () -> full.found(41, 0));
+        C.noArgument("10: a wrong AMOUNT, ahead of 8", full, () -> full.move(0, 0, 0, 5, 301));
+        C.noIndex("10: nobody, ahead of 8", full, () -> full.move(40, 0, 0, 5, 0));
+        C.noIndex("19: nobody, ahead of 8", full, () -> full.sue(0, 40, 0, 1, 5));
+        C.noArgument("19: a wrong KIND, ahead of 8", full, () -> full.sue(0, 1, 2, 1, 5));
+        C.noArgument("26: a wrong TRIBUTE, ahead of 4", full, () -> full.ally(0, 1));
+        C.noArgument("33: a wrong set, ahead of no WAR", full, () -> full.levy(16));
+        C.noArgument("34: a wrong LEAN, ahead of the people", full, () -> full.rise(-1, true));
     }
 
     /** Each answer of city() in a state that is known. */
@@ -234,6 +257,7 @@ public final class EdgesAnswersTest {
         pass();
         asking();
         digest();
+        order();
         city();
         roll();
         bell();

@@ -240,6 +240,96 @@ public final class EdgesAssemblyTest {
         }
     }
 
+    /** KIND 4, with 0, 4, 8, 12, 16 absent: 5 of 9 FULL ones are less than 6 of 10, 6 of 10 are enough, 6 of 11 less. */
+    private static void sixOfTen() {
+        int[][] waiting = {{7, 9, 10, 11}, {9, 10, 11}, {9, 10, 11, 13, 14, 15}};
+        int[] many = {13, 13, 17};
+        int[] present = {5, 6, 6};
+        int[] due = {-1, 6, -1};
+        for (int k = 0; k < 3; k++) {
+            Kleroterion x = new Kleroterion();
+            for (int c = 0; c < many[k]; c++) {
+                int view = 5;
+                for (int w : waiting[k]) if (w == c) view = 15;
+                x.enroll(0, 40, 0, view);
+            }
+            x.move(0, 4, 0, 5, 0);
+            C.due("3: FULL ones", x.city(6), many[k] - waiting[k].length);
+            C.due("3: PRESENT", x.city(14), present[k]);
+            C.due("15: KIND 4", x.would(0), due[k]);
+        }
+    }
+
+    /** On DAY 10 or later: 3 is EXILED, there is a CHAIR, no WAR is on; what each KIND does with AMOUNT 3, and nothing else. */
+    private static void eachKind() {
+        for (int kind = 0; kind <= 5; kind++) {
+            Kleroterion x = oneExiled();
+            x.move(0, kind, 2, 5, 3);
+            if (x.would(0) == -1) x.pass(1);
+            int cost = x.city(14) / 4;
+            int treasury = x.money(0);
+            C.due("12: KIND " + kind + " PASSES", x.assembly(), 1);
+            C.due("3: a DECREE by KIND 0", x.city(12), kind == 0 ? 1 : 0);
+            C.due("3: a LAW by KIND 1", x.law(2), kind == 1 ? 5 : -1);
+            C.due("3: the PURSE by KIND 2", x.money(2), kind == 2 ? 3 : 0);
+            C.due("3: the CHEST by KIND 3", x.money(1), kind == 3 ? 3 : 0);
+            C.citizen("3: called back by KIND 4", x, 3, 6, kind == 4 ? 1 : 3);
+            C.due("3: a WAR by KIND 5", x.city(10), kind == 5 ? 3 : -1);
+            C.due("3: paid", treasury - x.money(0), cost + (kind == 1 || kind == 2 || kind == 3 ? 3 : 0));
+            C.due("24: a board by KIND 1 alone", x.jury(0), kind == 1 ? 3 : 0);
+        }
+    }
+
+    /** By lost fights of nobody: the people do not rule, then they do; each further one who is EXILED is a DRAW more. */
+    private static Kleroterion oneExiled() {
+        for (int more = 0; more < 8; more++) {
+            Kleroterion x = Checks.three();
+            x.enroll(1, 20, 50, 15);
+            for (int k = 0; k < 6; k++) x.enroll(k % 2 == 0 ? 2 : 6, 20, 50, 5);
+            x.seat();
+            Checks.tillChair(x);
+            x.move(0, 5, 0, 5, 60);
+            x.assembly();
+            for (int k = 0; k < 7; k++) {
+                x.levy(8);
+                x.pass(1);
+            }
+            C.due("13: the strength is 0", x.city(10), 0);
+            x.pass(3);
+            x.rise(15, true);
+            C.citizen("14: EXILED", x, 3, 6, 3);
+            for (int k = 0; k < more; k++) {
+                x.enroll(5, 20, 0, 15);
+                x.rise(15, true);
+            }
+            x.rise(5, true);
+            for (int k = 0; k < 20; k++) x.enroll(3, 20, 50, 5);
+            for (int k = 0; k < 3 && x.city(10) == 0; k++) {
+                x.levy(8);
+                if (x.city(10) == 0) x.pass(1);
+            }
+            x.seat();
+            for (int k = 0; k < 25 && x.council(2) == -1; k++) x.pass(1);
+            if (x.council(2) >= 0 && x.city(10) == -1 && x.city(2) > 0 && x.city(0) % 10 == 0) return x;
+        }
+        C.due("3: such a city", false, true);
+        return Checks.three();
+    }
+
+    /** A board is of 1 ROW of each TRIBE, with two ROWS of tickets too. */
+    private static void boardOfOneRow() {
+        Kleroterion x = new Kleroterion();
+        for (int k = 0; k < 6; k++) x.enroll(0, 40, 100, 5);
+        x.seat();
+        Checks.tillChair(x);
+        x.move(0, 1, 0, 5, 0);
+        C.due("12: PASSES", x.assembly(), 1);
+        C.due("3: 1 ROW", x.jury(0), 3);
+        x.enroll(0, 40, 0, 15);
+        C.due("5: an APPEAL", x.appeal(6), false);
+        C.due("1: 1 ROW", x.jury(0), 3);
+    }
+
     /**
      * FULL ones are those as the ASSEMBLY begins: three of five are 6 of 10, of six they would not be.
      * The first LUCK at which there is a CHAIR on DAY 0 and, after the people ruled not, on DAY 10.
@@ -538,6 +628,9 @@ public final class EdgesAssemblyTest {
         nobodyPresent();
         nobodyFull();
         callBackVotes();
+        sixOfTen();
+        eachKind();
+        boardOfOneRow();
         fullAsItBegins();
         callBackOfOthers();
         boards();

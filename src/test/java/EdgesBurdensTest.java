@@ -58,6 +58,28 @@ public final class EdgesBurdensTest {
         burdens("who is OUT has none", y, 1, 0);
     }
 
+    /** Nor has one who is OUT of CLASS 3: by a claim both exchange, so that 3 has 300, of which a SHIP costs 40. */
+    private static void richButOut() {
+        Kleroterion x = Checks.three();
+        x.enroll(1, 20, 130, 5);
+        x.enroll(2, 20, 50, 5);
+        x.pass(40);
+        x.sue(4, 3, 1, 150, 5);
+        x.court();
+        C.citizen("1: OUT", x, 3, 6, 2);
+        x.enroll(5, 20, 300, 5);
+        C.due("28: both exchange", x.claim(3, 5), 2);
+        C.due("29: one who is OUT bears", x.bear(3), 1);
+        C.citizen("9: WEALTH", x, 3, 4, 260);
+        x.pass(40);
+        x.pass(40);
+        C.citizen("1: OUT still", x, 3, 6, 2);
+        C.citizen("9: none in the YEAR 3", x, 3, 12, 0);
+        C.due("6: PAYS", x.pay(3), 20);
+        x.pass(40);
+        C.citizen("9: a SHIP as one who is FULL", x, 3, 12, 1);
+    }
+
     /** Who had one as the YEAR that was ended has none: done or not; two YEARS later that one can have one again. */
     private static void everyOtherYear() {
         for (int done = 0; done <= 1; done++) {
@@ -266,6 +288,7 @@ public final class EdgesBurdensTest {
         return x;
     }
 
+    private static int belowZero = 0;
     private static int votesTied = 0;
     private static int winsTied = 0;
 
@@ -282,6 +305,7 @@ public final class EdgesBurdensTest {
                 most = value;
             }
         }
+        if (best != -1 && most <= 0) belowZero++;
         return best;
     }
 
@@ -348,6 +372,86 @@ public final class EdgesBurdensTest {
             for (int seatings = 0; seatings < 16; seatings++) hold(choruses(seatings, tribes, seatings % 4));
         }
         C.due("10: of several the smallest TRIBE", votesTied > 0 && winsTied > 0, true);
+    }
+
+    /** Three who judge suits (TRIBE 3), and CHORUSES of TRIBES 0, 1, 2 (as many as there are losses) of those who lost so much first. */
+    private static Kleroterion uneven(int seatings, int view, int... losses) {
+        Kleroterion x = new Kleroterion();
+        for (int s = 0; s < seatings; s++) x.seat();
+        for (int k = 0; k < 3; k++) x.enroll(3, 40, 0, view);
+        x.enroll(7, 20, 0, view);
+        for (int t = 0; t < losses.length; t++) {
+            x.enroll(t, 20, 300, view);
+            x.enroll(t + 4, 20, 200, view);
+        }
+        x.pass(40);
+        for (int t = 0; t < losses.length; t++) {
+            if (losses[t] == 0) continue;
+            x.sue(3, 5 + 2 * t, 0, losses[t], view);
+            C.due("7: tried", x.court(), 1);
+            x.pass(1);
+        }
+        for (int t = 0; t < losses.length; t++) {
+            int wealth = 200 - losses[t];
+            C.due("29: SPLENDOUR", x.bear(5 + 2 * t), wealth < 20 ? 10 : wealth < 60 ? 20 : wealth < 120 ? 30 : 40);
+        }
+        return x;
+    }
+
+    /** The greatest RANK by SPLENDOUR; with a SPLENDOUR of 10 and a VIEW of 15 what one votes for can be below 0. */
+    private static void unevenFestivals() {
+        int[][] losses = {{0, 81}, {81, 0}, {141, 0, 81}, {190, 141, 100}, {100, 190, 0}, {0, 0, 190}};
+        for (int[] l : losses) for (int seatings = 0; seatings < 8; seatings++) hold(uneven(seatings, 2 * seatings, l));
+        for (int seatings = 0; seatings < 64; seatings++) hold(uneven(seatings, 15, 190, 190));
+        C.due("10: greatest of those below 0, too", belowZero > 0, true);
+    }
+
+    /** A TRIBE that had a CHORUS in the YEAR 1, but has none in the YEAR 3, has no RANK then. */
+    private static void chorusOfOtherYear() {
+        for (int seatings = 0; seatings < 16; seatings++) {
+            Kleroterion x = choruses(seatings, 7, 1);
+            hold(x);
+            x.pass(40);
+            x.pass(40);
+            for (int c = 0; c < 6; c++) if (x.ofCitizen(c, 12) == 2 && x.ofCitizen(c, 1) != 2) x.bear(c);
+            C.due("31: no CHORUS of TRIBE 2", x.ofTribe(2, 2), 0);
+            hold(x);
+        }
+    }
+
+    /**
+     * One who did a SHIP is EXILED by sherds, called back in that YEAR, and gets the CHORUS of another one by a claim:
+     * that is not done. The first LUCK with a CHAIR in the PRYTANY 2 or 3 of the YEAR 1.
+     */
+    private static void calledBack() {
+        for (int seatings = 0; seatings < 64; seatings++) {
+            Kleroterion x = new Kleroterion();
+            for (int s = 0; s < seatings; s++) x.seat();
+            for (int k = 0; k < 3; k++) x.enroll(0, 40, 0, 5);
+            x.enroll(1, 20, 300, 14);
+            x.enroll(5, 20, 200, 5);
+            for (int deme : new int[] {2, 3, 6, 7, 2, 3, 6}) x.enroll(deme, 20, 0, 5);
+            x.pass(40);
+            C.due("29: a SHIP", x.bear(3), 1);
+            x.pass(20);
+            for (int d = 0; d < 19 && x.council(2) == -1; d++) x.pass(1);
+            if (x.council(2) == -1) continue;
+            x.move(0, 4, 0, 5, 3);
+            C.due("11: EXILED", x.sherds(), 3);
+            C.citizen("1: no BURDEN", x, 3, 12, 0);
+            if (x.would(0) == -1) continue;
+            C.due("3: called back", x.assembly(), 1);
+            C.citizen("3: FULL", x, 3, 6, 1);
+            C.citizen("1: no BURDEN", x, 3, 12, 0);
+            C.due("28: the VIEW 14 is even", x.claim(4, 3), 1);
+            C.citizen("9: a CHORUS", x, 3, 12, 2);
+            C.due("31: not done", x.ofTribe(1, 1), 1);
+            C.due("29: SPLENDOUR", x.bear(3), 40);
+            C.citizen("9: it costs 40, twice", x, 3, 4, 220);
+            C.noState("29: done", x, () -> x.bear(3));
+            return;
+        }
+        C.due("9: one LUCK does", false, true);
     }
 
     /** With five JUDGES just three votes are opened; with four all are, and nothing more is DRAWN. */
@@ -468,6 +572,7 @@ public final class EdgesBurdensTest {
     public static void main(String[] args) {
         whoHasThem();
         fullAlone();
+        richButOut();
         everyOtherYear();
         hadByTheOther();
         claims();
@@ -477,6 +582,9 @@ public final class EdgesBurdensTest {
         splendours();
         bearing();
         festivals();
+        unevenFestivals();
+        chorusOfOtherYear();
+        calledBack();
         opened();
         festivalRefused();
         few();

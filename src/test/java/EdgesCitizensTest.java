@@ -243,6 +243,19 @@ public final class EdgesCitizensTest {
         }
     }
 
+    /** FULL ones WAIT by that: not one who is OUT, with whose VIEW nobody AGREES. */
+    private static void purgeOfOut() {
+        Kleroterion x = Checks.three();
+        x.enroll(1, 20, 100, 5);
+        x.enroll(2, 20, 0, 15);
+        x.sue(3, 4, 1, 1, 5);
+        x.court();
+        for (int k = 0; k < 2; k++) x.enroll(2, 20, 0, 5);
+        C.citizen("1: OUT", x, 4, 6, 2);
+        C.due("4: nobody WAITS by that", x.purge(2), 0);
+        C.citizen("4: OUT still", x, 4, 6, 2);
+    }
+
     /** Who has no others in the DEME stays, whatever another DEME of that TRIBE thinks; an empty DEME. */
     private static void purgeOfFew() {
         Kleroterion x = new Kleroterion();
@@ -489,6 +502,7 @@ public final class EdgesCitizensTest {
         payOfOneWhoWaits();
         whoCannotPay();
         purge();
+        purgeOfOut();
         purgeOfFew();
         appeal();
         appealWithDebt();

@@ -346,6 +346,17 @@ public final class EdgesCourtsTest {
             C.citizen("7: a FINE with a PROOF of " + d[0] + " and an AMOUNT of " + d[1], x, 7, 4, 300 - d[2]);
             C.due("27: it came in", x.money(7), d[2]);
         }
+        int[][] three = {{5, 5, 8, 100}, {5, 8, 5, 100}, {8, 5, 5, 100}, {5, 8, 8, 25}, {8, 5, 8, 25}, {8, 8, 5, 25}};
+        for (int[] d : three) {
+            Kleroterion x = new Kleroterion();
+            for (int k = 0; k < 3; k++) x.enroll(0, 40, 100, d[k]);
+            x.enroll(1, 20, 100, 5);
+            x.enroll(2, 20, 300, 5);
+            x.sue(3, 4, 1, 100, 5);
+            x.court();
+            C.due("7: of three", x.jury(1), 3);
+            C.citizen("7: two of three are near, or one", x, 4, 4, 300 - d[3]);
+        }
         int[][] nine = {{5, 100, 100}, {3, 100, 100}, {2, 100, 25}, {8, 100, 25}};
         for (int[] d : nine) {
             Kleroterion x = Checks.three();
@@ -593,6 +604,13 @@ public final class EdgesCourtsTest {
             C.due("6: one DRAW", x.city(4), 3 * k + 1);
         }
         C.due("6: each of the three comes", isDrawn[0] && isDrawn[1] && isDrawn[2], true);
+        Kleroterion behindJury = new Kleroterion();
+        for (int k = 0; k < 3; k++) behindJury.enroll(3, 40, 100, 5);
+        for (int k = 0; k < 3; k++) behindJury.enroll(k, k == 2 ? 59 : 20, 100, 5);
+        behindJury.sue(3, 4, 0, 1, 5);
+        C.due("7: tried by those of TRIBE 3", behindJury.court(), 1);
+        behindJury.sue(3, 5, 0, 1, 5);
+        C.due("6: nobody of 59 but the accused, whoever was JUROR", behindJury.arbitrate(0), -1);
         for (int who = 0; who < 2; who++) {
             Kleroterion x = new Kleroterion();
             x.enroll(0, 59, 100, 4);
@@ -610,6 +628,19 @@ public final class EdgesCourtsTest {
             x.pass(40);
             C.due("6: 59 as the YEAR begins", x.arbitrate(0), 1);
         }
+    }
+
+    /** FULL ones arbitrate: not one of 59 who is OUT. */
+    private static void arbitratorIsOut() {
+        Kleroterion x = parties();
+        x.enroll(5, 59, 0, 5);
+        x.sue(3, 7, 1, 1, 5);
+        x.court();
+        C.citizen("1: OUT", x, 7, 6, 2);
+        x.sue(3, 4, 0, 1, 5);
+        C.due("6: nobody", x.arbitrate(0), -1);
+        x.enroll(6, 59, 0, 5);
+        C.due("6: somebody", x.arbitrate(0), 0);
     }
 
     /** Each: who AGREES or not, the VIEW of the one against whom it is found even or odd, WEALTH enough or not. */
@@ -711,6 +742,7 @@ public final class EdgesCourtsTest {
         decreeGone();
         account();
         arbitrators();
+        arbitratorIsOut();
         findings();
         arbitrateRefused();
         arbitratedAmongOthers();

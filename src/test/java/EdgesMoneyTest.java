@@ -166,6 +166,11 @@ public final class EdgesMoneyTest {
         int[] due = {300 + 10 - 50 - 3, 30, 20, 15, 11, 2, 30, 10, 53};
         for (int k = 0; k < 9; k++) C.due("27: " + k, x.money(k), due[k]);
         for (int what : new int[] {-1, 9, FAR[0], FAR[1]}) C.noArgument("27: what " + what, x, () -> x.money(what));
+        Kleroterion debts = new Kleroterion();
+        for (int k = 0; k < 3; k++) debts.enroll(k, 20, 10 * k, 5);
+        for (int k = 0; k < 3; k++) debts.lease(k, k, 30);
+        debts.pass(40);
+        C.due("27: all DEBTS, of the first and the last one too", debts.money(6), 30 + 20 + 10);
     }
 
     public static void main(String[] args) {

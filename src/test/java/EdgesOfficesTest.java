@@ -176,6 +176,12 @@ public final class EdgesOfficesTest {
         x.stand(1, 3);
         C.due("4: 3 for VIEW 0, 5 for 10 and 15, who stood first", x.fill(3), 2);
         C.due("4: nothing is DRAWN", x.city(4), 0);
+        Kleroterion last = new Kleroterion();
+        int[] views = {0, 0, 0, 5, 5, 10};
+        for (int k = 0; k < 6; k++) last.enroll(k == 5 ? 4 : 0, 40, 50, views[k]);
+        C.due("1: all are FULL", last.city(6), 6);
+        for (int c : new int[] {5, 0, 1, 2, 3}) last.stand(c, 3);
+        C.due("4: all AGREE with the one who stood last", last.fill(3), 3);
         Kleroterion y = new Kleroterion();
         y.enroll(0, 40, 50, 0);
         y.enroll(4, 40, 50, 15);
@@ -219,6 +225,17 @@ public final class EdgesOfficesTest {
         x.stand(0, 0);
         x.stand(3, 0);
         C.due("4: COUNCILLORS alone", x.fill(0), -1);
+        for (int tribe = 1; tribe <= 2; tribe++) {
+            Kleroterion nine = Checks.three();
+            for (int k = 3; k < 9; k++) nine.enroll(k < 6 ? 1 : 2, 40, 50, k / 3 == tribe ? 15 : 5);
+            nine.enroll(3, 40, 50, 5);
+            nine.enroll(7, 40, 50, 15);
+            C.due("8: seat", nine.seat(), 9);
+            nine.stand(10, 2);
+            C.due("4: three of nine", nine.fill(2), -1);
+            nine.stand(9, 2);
+            C.due("4: six of nine", nine.fill(2), 9);
+        }
         Kleroterion y = Checks.three();
         y.enroll(4, 40, 50, 15);
         y.stand(3, 0);
@@ -297,6 +314,20 @@ public final class EdgesOfficesTest {
             C.due("4: in OFFICE on DAY " + y.city(0), y.ofOffice(0, 0), 0);
             y.pass(1);
             C.due("4: one of three is less than half", y.ofOffice(0, 0), -1);
+        }
+    }
+
+    /** Those who AGREE with the VIEW of who is in it: 5 and 10 do, 5 and 11 do not, 10 and 5 do, 10 and 4 do not. */
+    private static void confidenceViews() {
+        int[][] due = {{5, 10, 1}, {5, 11, 0}, {10, 5, 1}, {10, 4, 0}};
+        for (int[] d : due) {
+            Kleroterion x = new Kleroterion();
+            x.enroll(0, 40, 50, d[0]);
+            for (int k = 1; k < 3; k++) x.enroll(k, 20, 50, d[1]);
+            x.stand(0, 0);
+            x.fill(0);
+            x.pass(10);
+            C.due("4: in OFFICE with VIEWS " + d[0] + " and " + d[1], x.ofOffice(0, 0), d[2] == 1 ? 0 : -1);
         }
     }
 
@@ -411,6 +442,7 @@ public final class EdgesOfficesTest {
         confidence(0);
         confidence(1);
         confidenceDays();
+        confidenceViews();
         firstStep();
         tenths();
         due();

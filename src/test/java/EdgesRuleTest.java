@@ -90,6 +90,20 @@ public final class EdgesRuleTest {
         C.due("11: 0, 4, 8 name 1, four name 0", x.sherds(), 0);
     }
 
+    /** Names of one YEAR do not count in the next one: eight for 0, then eight for 1. */
+    private static void namedAnew() {
+        Kleroterion x = new Kleroterion();
+        for (int k = 0; k < 12; k++) x.enroll(k % 8, 40, 0, k < 2 ? 15 - k : 5);
+        for (int k = 8; k < 10; k++) C.citizen("1: WAITS", x, k, 6, 0);
+        for (int k = 12; k < 14; k++) x.enroll(2, 40, 0, 5);
+        x.pass(20);
+        int due = x.city(14);
+        C.due("11: the VIEW 15", x.sherds(), 0);
+        x.pass(40);
+        C.due("36: as many are PRESENT", x.city(14), due);
+        C.due("11: the VIEW 14", x.sherds(), 1);
+    }
+
     /** FULL ones write, and FULL ones are named: the VIEW 15 is OUT, so 14 is named. */
     private static void outIsNotNamed() {
         Kleroterion x = Checks.three();
@@ -141,6 +155,25 @@ public final class EdgesRuleTest {
         C.citizen("1: WAITS", x, 4, 6, 0);
         int enemy = enemy(x);
         C.due("33: OUT and WAITING ones do not come", x.levy(8), -enemy);
+    }
+
+    /** One who is OUT has a WEALTH of 50 by a suit, or none: neither a HOPLITE nor a rower. */
+    private static void outDoesNotCome() {
+        Kleroterion x = Checks.three();
+        x.enroll(3, 20, 50, 5);
+        x.enroll(3, 20, 0, 5);
+        x.enroll(1, 20, 50, 5);
+        x.sue(5, 3, 1, 100, 5);
+        x.sue(3, 5, 0, 50, 5);
+        x.sue(5, 4, 1, 1, 5);
+        C.due("7: tried", x.court(), 3);
+        C.citizen("1: OUT", x, 3, 6, 2);
+        C.citizen("1: of CLASS 1", x, 3, 5, 1);
+        war(x, 10, 0);
+        int enemy = enemy(x);
+        int draws = x.city(4);
+        C.due("33: nobody comes", x.levy(8), -enemy);
+        C.due("13: nobody dies", x.city(4) - draws, 1);
     }
 
     /** 10 for each SHIP that is manned: all these rowers / 4, SHIPS at most; rowers of the TRIBES that are called together. */
@@ -350,6 +383,7 @@ public final class EdgesRuleTest {
         x.enroll(5, 20, 140, 5);
         Checks.overthrow(x, 5);
         C.due("36: the richest of those who are FULL", x.city(9), 3);
+        C.due("14: not one who is OUT", richAndOut(300).city(9), 9);
         C.due("14: no OATH", x.rise(5, false), true);
         int[] due = {1, 1, 1, 3, 3, 0, 3, 1};
         for (int c = 0; c < 8; c++) C.citizen("14: those who RULED", x, c, 6, due[c]);
@@ -401,7 +435,15 @@ public final class EdgesRuleTest {
         for (int c = 0; c < 6; c++) C.citizen("14: WEALTH", x, c, 4, due[c]);
         x.pass(10);
         for (int c = 0; c < 6; c++) C.citizen("14: CLASS 2 by now", x, c, 4, due[c]);
-        // 3 has a SHIP by DAY 40, is OUT, and gets the WEALTH of 8 for the own one
+        Kleroterion y = richAndOut(250);
+        y.pass(10);
+        C.citizen("14: one who is OUT pays", y, 3, 4, 245);
+        C.citizen("14: the first one has it", y, 9, 4, 305);
+        C.citizen("14: DEBT stays", y, 3, 7, 20);
+    }
+
+    /** 3 has a SHIP by DAY 40, is OUT, and gets the WEALTH of 8 for the own one; 9, 10, 11 have 300; overthrown on DAY 50. */
+    private static Kleroterion richAndOut(int wealth) {
         Kleroterion y = Checks.three();
         y.enroll(1, 20, 130, 5);
         y.enroll(2, 20, 50, 5);
@@ -415,21 +457,35 @@ public final class EdgesRuleTest {
         y.sue(4, 3, 1, 150, 5);
         y.court();
         C.citizen("1: OUT", y, 3, 6, 2);
-        y.enroll(5, 20, 250, 5);
-        for (int k = 0; k < 3; k++) y.enroll(6, 20, 300, 5);
+        y.enroll(5, 20, wealth, 5);
+        for (int k = 0; k < 3; k++) y.enroll(6, 20, 300 - (wealth == 300 ? 10 : 0), 5);
         C.due("28: both exchange", y.claim(3, 8), 2);
-        C.citizen("9: OUT with WEALTH", y, 3, 4, 250);
+        C.citizen("9: OUT with WEALTH", y, 3, 4, wealth);
         for (int k = 0; k < 7; k++) {
             y.levy(8);
             y.pass(1);
         }
         y.pass(3);
         C.due("14: overthrown", y.city(8), 0);
-        C.due("36: the first one", y.city(9), 9);
-        y.pass(10);
-        C.citizen("14: one who is OUT pays", y, 3, 4, 245);
-        C.citizen("14: the first one has it", y, 9, 4, 305);
-        C.citizen("14: DEBT stays", y, 3, 7, 20);
+        C.due("36: the first one is FULL, though one who is OUT is richer", y.city(9), 9);
+        return y;
+    }
+
+    /** CITIZENS pay in their order, with any number: 0 and 4 pay 1 and 2. */
+    private static void payersInOrder() {
+        Kleroterion x = unruled(200, 300, 290, 280, 120);
+        x.pass(10);
+        int[] due = {195, 305, 295, 280, 115};
+        for (int c = 0; c < 5; c++) C.citizen("14: WEALTH", x, c, 4, due[c]);
+        // by their WEALTH, one more each, these RULE as 2, 1, 0, or as 3, 2, 1
+        Kleroterion up = unruled(297, 298, 299, 120, 120);
+        up.pass(10);
+        int[] two = {297, 303, 304, 115, 115};
+        for (int c = 0; c < 5; c++) C.citizen("14: the first one, the second one", up, c, 4, two[c]);
+        Kleroterion four = unruled(296, 297, 298, 299, 120);
+        four.pass(10);
+        int[] three = {291, 297, 303, 304, 115};
+        for (int c = 0; c < 5; c++) C.citizen("14: 0 pays the first one, 4 the second one", four, c, 4, three[c]);
     }
 
     /** Whatever STATUS these have by now: one who RULES is EXILED, and is paid. */
@@ -508,6 +564,45 @@ public final class EdgesRuleTest {
         C.due("34: none of none is not more", none.rise(5, true), false);
         C.due("36: the people do not rule", none.city(8), 0);
         C.due("36: nobody is there", none.city(5), 0);
+    }
+
+    /** One of those FULL ones who AGREE: not one who WAITS or is EXILED, nor a HOPLITE who was called. */
+    private static void whoIsDrawn() {
+        Kleroterion x = unruled();
+        int[] demes = {0, 0, 0, 1, 2, 3};
+        int[] views = {5, 15, 15, 5, 5, 15};
+        for (int k = 0; k < 6; k++) x.enroll(demes[k], 20, 0, views[k]);
+        C.citizen("1: WAITS", x, 1, 6, 0);
+        for (int k = 5; k < 15; k++) {
+            C.due("34: one of four", x.rise(15, true), false);
+            C.citizen("14: the only FULL one who AGREES", x, k, 6, 3);
+            C.due("14: nobody else", x.roll(3, 0, -1), k - 4);
+            x.enroll(3, 20, 0, 15);
+        }
+        Kleroterion out = unruled();
+        for (int k = 0; k < 2; k++) out.enroll(0, 20, 0, 15);
+        for (int k = 0; k < 2; k++) out.lease(k, k, 50);
+        for (int k = 1; k < 6; k++) out.enroll(k, 20, 0, 5);
+        out.pass(30);
+        C.due("1: two are OUT", out.roll(2, 0, 0), 2);
+        for (int k = 7; k < 15; k++) {
+            out.enroll(7, 20, 0, 15);
+            C.due("34: one of six", out.rise(15, true), false);
+            C.citizen("14: not one who is OUT", out, k, 6, 3);
+        }
+        Kleroterion y = Checks.overthrown();
+        y.enroll(1, 20, 0, 15);
+        for (int k = 0; k < 4; k++) y.enroll(2, 20, 0, 5);
+        for (int k = 3; k < 12; k++) {
+            if (k > 3) y.enroll(3, 20, 0, 15);
+            y.levy(1);
+            int who = y.city(5) - 1;
+            if (k == 3) who = 3;
+            y.rise(15, true);
+            C.citizen("14: not a HOPLITE", y, who, 6, 3);
+            y.pass(1);
+            if (y.city(0) % 10 == 9) y.pass(1);
+        }
     }
 
     private static void riseRefused() {
@@ -685,8 +780,10 @@ public final class EdgesRuleTest {
         sixPresent();
         whoIsNamed();
         namedMost();
+        namedAnew();
         outIsNotNamed();
         hoplites();
+        outDoesNotCome();
         ships();
         generals();
         chests();
@@ -698,9 +795,11 @@ public final class EdgesRuleTest {
         fullOnesRule();
         exactions();
         payers();
+        payersInOrder();
         anyStatus();
         whatIsEmpty();
         half();
+        whoIsDrawn();
         riseRefused();
         laws();
         amnesty();

@@ -1,4 +1,3 @@
-import java.util.ArrayList;
 import java.util.List;
 
 /** Promises 37 to 41: roll, isSound, bell, tell, digest; and that what is asked changes nothing. */
@@ -85,7 +84,7 @@ public final class QuestionsTest {
         C.due("another object in the same state", busy(new Kleroterion()).digest(), busy(new Kleroterion()).digest());
         for (Kleroterion y : List.of(new Kleroterion(), x, busy(new Kleroterion()), Checks.overthrown())) {
             long d = 58261;
-            for (long v : numbers(y)) d = d * 31 + v;
+            for (long v : Checks.numbers(y)) d = d * 31 + v;
             C.due("digest", y.digest(), d);
             C.due("digest once more", y.digest(), d);
             C.due("sound", y.isSound(), true);
@@ -103,23 +102,6 @@ public final class QuestionsTest {
         x.move(5, 2, 0, 6, 30);
         x.move(5, 4, 0, 6, 30);
         return x;
-    }
-
-    private static List<Long> numbers(Kleroterion x) {
-        List<Long> all = new ArrayList<>();
-        for (int k = 0; k <= 14; k++) all.add((long) x.city(k));
-        for (int k = 0; k <= 4; k++) all.add((long) x.council(k));
-        for (int k = 0; k <= 8; k++) all.add((long) x.money(k));
-        for (int k = 0; k <= 6; k++) all.add((long) x.jury(k));
-        for (int k = 0; k <= 7; k++) all.add((long) x.law(k));
-        for (int o = 0; o < 7; o++) for (int k = 0; k <= 3; k++) all.add((long) x.ofOffice(o, k));
-        for (int t = 0; t < 4; t++) for (int k = 0; k <= 4; k++) all.add((long) x.ofTribe(t, k));
-        for (int d = 0; d < x.city(12); d++) for (int k = 0; k <= 4; k++) all.add((long) x.ofDecree(d, k));
-        for (int s = 0; s < x.jury(6); s++) for (int k = 0; k <= 6; k++) all.add((long) x.ofSuit(s, k));
-        for (int m = 0; m < x.city(11); m++) all.add((long) x.would(m));
-        for (int c = 0; c < x.city(5); c++) for (int k = 0; k <= 12; k++) all.add((long) x.ofCitizen(c, k));
-        all.add(x.isSound() ? 1L : 0L);
-        return all;
     }
 
     public static void main(String[] args) {
