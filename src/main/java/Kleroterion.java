@@ -644,7 +644,7 @@ public final class Kleroterion {
     private void endYear() {
         estate.fineIdle();
         city.collectRents();
-        city.emptyOffices(true);
+        city.dismissAll();
         estate.settleAllies();
     }
 
@@ -1146,13 +1146,16 @@ public final class Kleroterion {
             return NONE;
         }
 
-        void emptyOffices(boolean isWithAccount) {
+        void dismissAll() {
             for (int k = 0; k < offices.size(); k++) {
-                if (isWithAccount) {
-                    offices.get(k).dismiss(this);
-                } else {
-                    offices.get(k).holder = null;
-                }
+                offices.get(k).dismiss(this);
+            }
+        }
+
+        /** Without accounts. */
+        void emptyOffices() {
+            for (int k = 0; k < offices.size(); k++) {
+                offices.get(k).holder = null;
             }
         }
 
@@ -2204,7 +2207,7 @@ public final class Kleroterion {
         private void overthrow() {
             city.isFree = false;
             city.dissolveCouncil();
-            city.emptyOffices(false);
+            city.emptyOffices();
             assembly.agenda.clear();
             for (int k = 0; k < MOST_RULERS; k++) {
                 Citizen next = richestBehind();
